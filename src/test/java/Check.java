@@ -1,0 +1,44 @@
+import java.util.Objects;
+
+/** Counts the answers that are as due and prints those that are not. */
+final class Check {
+    private static int passed = 0;
+    private static int failed = 0;
+
+    private Check() {
+    }
+
+    interface Call {
+        Object answer();
+    }
+
+    static void due(String what, Object got, Object want) {
+        if (Objects.equals(got, want)) {
+            passed++;
+        } else {
+            failed++;
+            System.out.println(what + " answered " + got + ", due is " + want);
+        }
+    }
+
+    /** The call is to throw just this class of exception. */
+    static void refused(String what, Class<? extends RuntimeException> want, Call call) {
+        due(what + " throws", outcome(call), "throws " + want.getSimpleName());
+    }
+
+    /** What a call answers, or "throws" and the name of what it throws. */
+    static Object outcome(Call call) {
+        try {
+            return call.answer();
+        } catch (RuntimeException thrown) {
+            return "throws " + thrown.getClass().getSimpleName();
+        }
+    }
+
+    static void end(String name) {
+        System.out.println(name + ": " + passed + " as due, " + failed + " not");
+        if (failed > 0) {
+            System.exit(1);
+        }
+    }
+}

@@ -712,12 +712,14 @@ public final class Kerfhall {
         private final int diameter;
         private final boolean[] knots = new boolean[SIDE * SIDE];
         private final boolean[] metal = new boolean[SIDE * SIDE];
+        private final long[] cells = new long[SIDE * SIDE];
         private int dx;
         private int dy;
         private int rotRadius;
 
         Slice(int diameter) {
             this.diameter = diameter;
+            renewCells();
         }
 
         /** The square of twice the distance of a cell's middle from the middle of a slice without sweep. */
@@ -727,27 +729,35 @@ public final class Kerfhall {
             return across * across + up * up;
         }
 
-        /** What there truly is in a cell: BARE, or any of KNOT, ROT and METAL in its wood. */
-        long cellAt(int x, int y) {
-            int spread = spread(x - dx, y - dy);
-            if (spread > diameter * diameter) {
-                return BARE;
+        /** A cell is BARE, or has any of KNOT, ROT and METAL in its wood. */
+        private void renewCells() {
+            for (int x = 0; x < SIDE; x++) {
+                for (int y = 0; y < SIDE; y++) {
+                    int index = x * SIDE + y;
+                    int spread = spread(x - dx, y - dy);
+                    long knot = knots[index] ? KNOT : 0;
+                    long rot = spread <= 4 * rotRadius * rotRadius ? ROT : 0;
+                    long inside = knot | rot | (metal[index] ? METAL : 0);
+                    cells[index] = spread <= diameter * diameter ? inside : BARE;
+                }
             }
-            long knot = knots[x * SIDE + y] ? KNOT : 0;
-            long rot = spread <= 4 * rotRadius * rotRadius ? ROT : 0;
-            return knot | rot | (metal[x * SIDE + y] ? METAL : 0);
+        }
+
+        /** What there truly is in a cell of the slice. */
+        long cellAt(int x, int y) {
+            return cells[x * SIDE + y];
         }
 
         /** What a cell would be if the slice had no sweep: BARE, or 0 for wood. */
         long outlineAt(int x, int y) {
-            return spread(x, y) > diameter * diameter ? BARE : 0;
+            return spread(x, y) <= diameter * diameter ? 0 : BARE;
         }
 
         long tally(int fromX, int toX, int fromY, int toY) {
             long sum = 0;
             for (int x = fromX; x < toX; x++) {
                 for (int y = fromY; y < toY; y++) {
-                    sum += cellAt(x, y);
+                    sum += cells[x * SIDE + y];
                 }
             }
             return sum;
@@ -760,6 +770,7 @@ public final class Kerfhall {
         void sweepTo(int newDx, int newDy) {
             dx = newDx;
             dy = newDy;
+            renewCells();
         }
 
         void markKnot(int fromX, int fromY, int size) {
@@ -768,14 +779,17 @@ public final class Kerfhall {
                     knots[x * SIDE + y] = true;
                 }
             }
+            renewCells();
         }
 
         void growRot(int radius) {
             rotRadius = Math.max(rotRadius, radius);
+            renewCells();
         }
 
         void markMetal(int x, int y) {
             metal[x * SIDE + y] = true;
+            renewCells();
         }
     }
 

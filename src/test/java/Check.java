@@ -31,8 +31,16 @@ final class Check {
         try {
             return call.answer();
         } catch (RuntimeException thrown) {
-            return "throws " + thrown.getClass().getSimpleName();
+            return told(thrown);
         }
+    }
+
+    /** Names what was thrown; the mills are to throw themselves, not to let the library do it. */
+    static String told(Throwable thrown) {
+        StackTraceElement[] trace = thrown.getStackTrace();
+        String place = trace.length == 0 ? "nowhere" : trace[0].getClassName();
+        boolean isOwn = place.startsWith("Kerfhall") || place.startsWith("PlainMill");
+        return "throws " + thrown.getClass().getSimpleName() + (isOwn ? "" : " in " + place);
     }
 
     static void end(String name) {

@@ -136,6 +136,26 @@ final class PlainMill {
         return logs.size();
     }
 
+    /** The first log from one on that is not sawn, or this one if there is none. */
+    int logToWorkOn(int from) {
+        for (int log = from % Math.max(1, logs.size()); log < logs.size(); log++) {
+            if (!logs.get(log).sawn) {
+                return log;
+            }
+        }
+        return from;
+    }
+
+    /** The first order from one on that is not delivered, or this one if there is none. */
+    int orderToDeliver(int from) {
+        for (int order = from % Math.max(1, deals.size()); order < deals.size(); order++) {
+            if (!deals.get(order).delivered) {
+                return order;
+            }
+        }
+        return from;
+    }
+
     private Wood log(int n) {
         if (n < 0 || n >= logs.size()) {
             throw new IndexOutOfBoundsException();

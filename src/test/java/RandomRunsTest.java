@@ -9,21 +9,29 @@ import java.util.TreeMap;
 
 /** Compares Kerfhall with PlainMill in long runs of calls, always the same ones. */
 public final class RandomRunsTest {
-    private static final int RUNS = 120;
+    private static final int RUNS = 100;
     private static final int CALLS = 512;
-    private static final String[] OFTEN = {
-        "addLog", "setSweep", "addKnot", "addRot", "addMetal", "scan", "scan", "scan", "saw", "saw", "saw", "plan",
-        "planned", "plannedAt", "plannedAt", "tick", "tick", "tick", "tick", "charge", "charge", "empty", "trim", "rip",
-        "seenAt", "seenAt", "gradeOf", "inBoard", "inBoard", "partOf", "deliver", "addOrder", "setStep", "file",
-        "setRule", "setPrice", "setWeather",
+    private static final String[] OF_A_SAWYER = {
+        "saw", "saw", "tick", "tick", "tick", "tick", "charge", "charge", "empty", "condition", "trim", "rip", "gradeOf",
+        "gradeOf", "inBoard", "inBoard", "partOf", "deliver", "deliver", "deliver", "addOrder", "setStep", "setRule",
+        "setWeather", "chips", "dust", "burnt", "balance", "money", "soldAs", "moisture", "hasChecks", "stateOf", "inBin",
+        "classOf", "queue", "inYard", "meanMoisture", "yieldShare", "wear", "stopped", "addKnot", "addRot", "addMetal",
+    };
+    private static final String[] OF_A_PLANNER = {
+        "addLog", "addLog", "setSweep", "setSweep", "addKnot", "addKnot", "addRot", "addMetal", "scan", "scan", "scan",
+        "scan", "saw", "plan", "plan", "planned", "plannedAt", "plannedAt", "plannedAt", "tick", "tick", "tick", "charge",
+        "charge", "empty", "trim", "rip", "seenAt", "seenAt", "gradeOf", "inBoard", "inBoard", "partOf", "deliver",
+        "addOrder", "setStep", "setRule", "setPrice", "setWeather", "chips", "dust", "balance", "soldAs", "meanMoisture",
     };
     private final Random random;
+    private final boolean isSawyer;
     private final Map<String, Method> calls = new TreeMap<>();
     private final List<String> names;
     private final Map<String, Integer> outcomes;
 
     private RandomRunsTest(long seed, Map<String, Integer> outcomes) {
         random = new Random(seed);
+        isSawyer = seed % 2 == 0;
         this.outcomes = outcomes;
         for (Method method : Kerfhall.class.getDeclaredMethods()) {
             if (java.lang.reflect.Modifier.isPublic(method.getModifiers())) {
@@ -51,7 +59,7 @@ public final class RandomRunsTest {
     }
 
     private Object[] argumentsOf(String name, int logs, PlainMill plain) {
-        int log = near(0, logs - 1);
+        int log = random.nextInt(10) == 0 ? near(0, logs - 1) : plain.logToWorkOn(random.nextInt(10));
         int board = near(0, plain.boards() - 1);
         int slice = near(0, 5);
         switch (name) {
@@ -91,17 +99,17 @@ public final class RandomRunsTest {
             case "rip":
                 return new Object[] {board, near(3, 8), near(3, 6)};
             case "tick":
-                return new Object[] {toss() ? near(1, 6) : near(1, 50)};
+                return new Object[] {isSawyer || toss() ? near(1, 4) : near(1, 50)};
             case "inBin":
             case "classOf":
             case "charge":
                 return new Object[] {near(0, 3)};
             case "setStep":
-                return new Object[] {near(0, 3), near(1, 9)};
+                return new Object[] {near(0, 3), near(isSawyer ? 4 : 1, 9)};
             case "addOrder":
-                return new Object[] {near(2, 3), near(0, 3), near(1, toss() ? 20 : 200), near(0, 20), near(0, 99), toss()};
+                return new Object[] {near(2, 3), near(0, 3), near(1, isSawyer ? 12 : 200), near(0, 20), near(0, 99), toss()};
             case "deliver":
-                return new Object[] {near(0, 7)};
+                return new Object[] {random.nextInt(10) == 0 ? near(0, 7) : plain.orderToDeliver(random.nextInt(8))};
             case "setWeather":
                 return new Object[] {toss(), random.nextInt(4) == 0};
             default:
@@ -115,7 +123,7 @@ public final class RandomRunsTest {
             method.setAccessible(true);
             return method.invoke(mill, arguments);
         } catch (InvocationTargetException thrown) {
-            return "throws " + thrown.getCause().getClass().getSimpleName();
+            return Check.told(thrown.getCause());
         } catch (ReflectiveOperationException broken) {
             return "cannot be called: " + broken;
         }
@@ -127,7 +135,7 @@ public final class RandomRunsTest {
         Object got = answer(mill, name, types, arguments);
         String told = name + Arrays.toString(arguments);
         story.add(told + " -> " + want);
-        String kind = want instanceof String ? (String) want : want instanceof Boolean ? want.toString() : "answer";
+        String kind = want instanceof String ? (String) want : want.equals(0) ? "0" : "answer";
         outcomes.merge(name + " " + kind, 1, Integer::sum);
         if (!want.equals(got)) {
             System.out.println(story);
@@ -135,23 +143,28 @@ public final class RandomRunsTest {
         Check.due(told, got, want);
     }
 
-    private boolean run() {
+    private void run() {
         Kerfhall mill = new Kerfhall();
         PlainMill plain = new PlainMill();
         List<String> story = new ArrayList<>();
-        int logs = 0;
-        for (int i = 0; i < CALLS; i++) {
-            boolean isOften = random.nextInt(4) > 0;
-            String name = isOften ? OFTEN[random.nextInt(OFTEN.length)] : names.get(random.nextInt(names.size()));
-            // Few logs early, so that there is something left to saw late.
-            if (name.equals("addLog") && logs > i / 40 + 1) {
-                name = "scan";
-            }
-            Object[] arguments = argumentsOf(name, logs, plain);
-            call(mill, plain, name, arguments, story);
-            logs = plain.logs();
+        for (int log = 0; isSawyer && log < 10; log++) {
+            int butt = 4 + random.nextInt(13);
+            call(mill, plain, "addLog", new Object[] {butt, 4 + random.nextInt(butt - 3), toss()}, story);
+            call(mill, plain, "scan", new Object[] {log, "sl".charAt(random.nextInt(2))}, story);
         }
-        return true;
+        while (story.size() < CALLS) {
+            String name = nextCall(plain.logs(), story.size());
+            call(mill, plain, name, argumentsOf(name, plain.logs(), plain), story);
+        }
+    }
+
+    private String nextCall(int logs, int calls) {
+        String[] often = isSawyer ? OF_A_SAWYER : OF_A_PLANNER;
+        String name = random.nextInt(5) > 0 ? often[random.nextInt(often.length)] : names.get(random.nextInt(names.size()));
+        // A planner gets logs little by little and keeps most, so that there is something left to plan late.
+        boolean isTooMuch = name.equals("addLog") && logs > calls / 40 + 1 || name.equals("saw") && random.nextInt(3) > 0;
+        boolean isTooSoon = name.equals("saw") && random.nextInt(5) > 0;
+        return isSawyer ? isTooSoon ? "tick" : name : isTooMuch ? "scan" : name;
     }
 
     public static void main(String[] args) {

@@ -21,9 +21,17 @@ final class Check {
         }
     }
 
-    /** The call is to throw just this class of exception. */
-    static void refused(String what, Class<? extends RuntimeException> want, Call call) {
+    /** The call is to throw just this class of exception, and to change nothing of the mill. */
+    static void refused(Kerfhall mill, String what, Class<? extends RuntimeException> want, Call call) {
+        String before = Inside.of(mill);
         due(what + " throws", outcome(call), "throws " + want.getSimpleName());
+        due(what + " changes nothing", Inside.of(mill).equals(before), true);
+    }
+
+    /** The call is to throw nothing. */
+    static void allowed(String what, Call call) {
+        Object outcome = outcome(call);
+        due(what + " is allowed", outcome instanceof String ? outcome : "yes", "yes");
     }
 
     /** What a call answers, or "throws" and the name of what it throws. */

@@ -21,18 +21,6 @@ public final class LogTest {
         return mill;
     }
 
-    private static int woodOf(int diameter, int dx, int dy) {
-        int count = 0;
-        for (int x = 0; x < 16; x++) {
-            for (int y = 0; y < 16; y++) {
-                int a = 2 * (x - 8 - dx) + 1;
-                int b = 2 * (y - 8 - dy) + 1;
-                count += a * a + b * b <= diameter * diameter ? 1 : 0;
-            }
-        }
-        return count;
-    }
-
     private static void promise1NewObject() {
         Kerfhall mill = new Kerfhall();
         Check.due("boards", mill.boards(), 0);
@@ -48,25 +36,25 @@ public final class LogTest {
         Check.due("burnt", mill.burnt(), 0);
         Check.due("logs", mill.setWeather(false, false), 0);
         Check.due("sound", mill.isSound(), true);
-        Check.refused("volumeOf of no log", INDEX, () -> mill.volumeOf(0));
-        Check.refused("gradeOf of no board", INDEX, () -> mill.gradeOf(0));
-        Check.refused("deliver of no order", INDEX, () -> mill.deliver(0));
+        Check.refused(mill, "volumeOf of no log", INDEX, () -> mill.volumeOf(0));
+        Check.refused(mill, "gradeOf of no board", INDEX, () -> mill.gradeOf(0));
+        Check.refused(mill, "deliver of no order", INDEX, () -> mill.deliver(0));
     }
 
     private static void promise2AddLog() {
         Kerfhall mill = new Kerfhall();
-        Check.refused("butt 3", ARGUMENT, () -> mill.addLog(3, 3, false));
-        Check.refused("butt 17", ARGUMENT, () -> mill.addLog(17, 16, false));
-        Check.refused("top 3", ARGUMENT, () -> mill.addLog(4, 3, false));
-        Check.refused("top over butt", ARGUMENT, () -> mill.addLog(10, 11, false));
-        Check.refused("least int", ARGUMENT, () -> mill.addLog(Integer.MIN_VALUE, Integer.MIN_VALUE, false));
-        Check.refused("greatest int", ARGUMENT, () -> mill.addLog(Integer.MAX_VALUE, 4, false));
+        Check.refused(mill, "butt 3", ARGUMENT, () -> mill.addLog(3, 3, false));
+        Check.refused(mill, "butt 17", ARGUMENT, () -> mill.addLog(17, 16, false));
+        Check.refused(mill, "top 3", ARGUMENT, () -> mill.addLog(4, 3, false));
+        Check.refused(mill, "top over butt", ARGUMENT, () -> mill.addLog(10, 11, false));
+        Check.refused(mill, "least int", ARGUMENT, () -> mill.addLog(Integer.MIN_VALUE, Integer.MIN_VALUE, false));
+        Check.refused(mill, "greatest int", ARGUMENT, () -> mill.addLog(Integer.MAX_VALUE, 4, false));
         int[][] diameters = {{4, 4}, {16, 16}, {16, 4}, {5, 4}, {10, 10}, {12, 10}, {8, 4}, {9, 7}, {7, 5}, {6, 6}};
         for (int log = 0; log < 10; log++) {
             Check.due("number of a log", mill.addLog(diameters[log][0], diameters[log][1], log % 2 == 0), log);
         }
-        Check.refused("an eleventh log", STATE, () -> mill.addLog(8, 8, false));
-        Check.refused("a wrong eleventh log", ARGUMENT, () -> mill.addLog(8, 9, false));
+        Check.refused(mill, "an eleventh log", STATE, () -> mill.addLog(8, 8, false));
+        Check.refused(mill, "a wrong eleventh log", ARGUMENT, () -> mill.addLog(8, 9, false));
         Check.due("logs that lie", mill.setWeather(false, false), 10);
     }
 
@@ -77,21 +65,21 @@ public final class LogTest {
         Kerfhall thick = millWithLog(16, 16);
         for (int dx = -2; dx <= 2; dx++) {
             for (int dy = -2; dy <= 2; dy++) {
-                Check.due("sweep " + dx + " " + dy, thick.setSweep(0, 3, dx, dy), woodOf(16, dx, dy));
+                Check.due("sweep " + dx + " " + dy, thick.setSweep(0, 3, dx, dy), Mills.woodOf(16, dx, dy));
             }
         }
-        Check.due("one slice alone is swept", thick.volumeOf(0), 5 * woodOf(16, 0, 0) + woodOf(16, 2, 2));
-        Check.refused("log 1", INDEX, () -> mill.setSweep(1, 0, 0, 0));
-        Check.refused("log -1", INDEX, () -> mill.setSweep(-1, 0, 0, 0));
-        Check.refused("slice 6", INDEX, () -> mill.setSweep(0, 6, 0, 0));
-        Check.refused("slice -1 and a wrong sweep", INDEX, () -> mill.setSweep(0, -1, 3, 0));
-        Check.refused("dx 3", ARGUMENT, () -> mill.setSweep(0, 0, 3, 0));
-        Check.refused("dx -3", ARGUMENT, () -> mill.setSweep(0, 0, -3, 0));
-        Check.refused("dy 3", ARGUMENT, () -> mill.setSweep(0, 0, 0, 3));
-        Check.refused("dy -3", ARGUMENT, () -> mill.setSweep(0, 0, 0, -3));
+        Check.due("one slice alone is swept", thick.volumeOf(0), 5 * Mills.woodOf(16, 0, 0) + Mills.woodOf(16, 2, 2));
+        Check.refused(mill, "log 1", INDEX, () -> mill.setSweep(1, 0, 0, 0));
+        Check.refused(mill, "log -1", INDEX, () -> mill.setSweep(-1, 0, 0, 0));
+        Check.refused(mill, "slice 6", INDEX, () -> mill.setSweep(0, 6, 0, 0));
+        Check.refused(mill, "slice -1 and a wrong sweep", INDEX, () -> mill.setSweep(0, -1, 3, 0));
+        Check.refused(mill, "dx 3", ARGUMENT, () -> mill.setSweep(0, 0, 3, 0));
+        Check.refused(mill, "dx -3", ARGUMENT, () -> mill.setSweep(0, 0, -3, 0));
+        Check.refused(mill, "dy 3", ARGUMENT, () -> mill.setSweep(0, 0, 0, 3));
+        Check.refused(mill, "dy -3", ARGUMENT, () -> mill.setSweep(0, 0, 0, -3));
         Kerfhall sawn = millWithSawnLog();
-        Check.refused("sweep of a sawn log", UNSUPPORTED, () -> sawn.setSweep(0, 0, 0, 0));
-        Check.refused("wrong sweep of a sawn log", ARGUMENT, () -> sawn.setSweep(0, 0, 0, 9));
+        Check.refused(sawn, "sweep of a sawn log", UNSUPPORTED, () -> sawn.setSweep(0, 0, 0, 0));
+        Check.refused(sawn, "wrong sweep of a sawn log", ARGUMENT, () -> sawn.setSweep(0, 0, 0, 9));
     }
 
     private static void promise4AddKnot() {
@@ -105,20 +93,20 @@ public final class LogTest {
         // The square stays where it is as the wood moves: the columns 2 to 5 lie in wood from column 6 on.
         mill.setSweep(0, 0, 2, 0);
         Check.due("the wood moved off the knot", mill.addKnot(0, 0, 0, 0, 1), 0);
-        Check.refused("log 1", INDEX, () -> mill.addKnot(1, 0, 0, 0, 1));
-        Check.refused("slice 6 and a wrong size", INDEX, () -> mill.addKnot(0, 6, 0, 0, 5));
-        Check.refused("x -1", ARGUMENT, () -> mill.addKnot(0, 0, -1, 0, 1));
-        Check.refused("y -1", ARGUMENT, () -> mill.addKnot(0, 0, 0, -1, 1));
-        Check.refused("x over the side", ARGUMENT, () -> mill.addKnot(0, 0, 15, 0, 2));
-        Check.refused("y over the side", ARGUMENT, () -> mill.addKnot(0, 0, 0, 13, 4));
-        Check.refused("greatest x", ARGUMENT, () -> mill.addKnot(0, 0, Integer.MAX_VALUE, 0, 4));
-        Check.refused("size 0", ARGUMENT, () -> mill.addKnot(0, 0, 0, 0, 0));
-        Check.refused("size 5", ARGUMENT, () -> mill.addKnot(0, 0, 0, 0, 5));
-        Check.refused("least size", ARGUMENT, () -> mill.addKnot(0, 0, 0, 0, Integer.MIN_VALUE));
+        Check.refused(mill, "log 1", INDEX, () -> mill.addKnot(1, 0, 0, 0, 1));
+        Check.refused(mill, "slice 6 and a wrong size", INDEX, () -> mill.addKnot(0, 6, 0, 0, 5));
+        Check.refused(mill, "x -1", ARGUMENT, () -> mill.addKnot(0, 0, -1, 0, 1));
+        Check.refused(mill, "y -1", ARGUMENT, () -> mill.addKnot(0, 0, 0, -1, 1));
+        Check.refused(mill, "x over the side", ARGUMENT, () -> mill.addKnot(0, 0, 15, 0, 2));
+        Check.refused(mill, "y over the side", ARGUMENT, () -> mill.addKnot(0, 0, 0, 13, 4));
+        Check.refused(mill, "greatest x", ARGUMENT, () -> mill.addKnot(0, 0, Integer.MAX_VALUE, 0, 4));
+        Check.refused(mill, "size 0", ARGUMENT, () -> mill.addKnot(0, 0, 0, 0, 0));
+        Check.refused(mill, "size 5", ARGUMENT, () -> mill.addKnot(0, 0, 0, 0, 5));
+        Check.refused(mill, "least size", ARGUMENT, () -> mill.addKnot(0, 0, 0, 0, Integer.MIN_VALUE));
         Check.due("the last cell", mill.addKnot(0, 5, 15, 15, 1), 0);
         Kerfhall sawn = millWithSawnLog();
-        Check.refused("knot of a sawn log", UNSUPPORTED, () -> sawn.addKnot(0, 0, 0, 0, 1));
-        Check.refused("wrong knot of a sawn log", ARGUMENT, () -> sawn.addKnot(0, 0, 16, 0, 1));
+        Check.refused(sawn, "knot of a sawn log", UNSUPPORTED, () -> sawn.addKnot(0, 0, 0, 0, 1));
+        Check.refused(sawn, "wrong knot of a sawn log", ARGUMENT, () -> sawn.addKnot(0, 0, 16, 0, 1));
     }
 
     private static void promise5AddRot() {
@@ -130,14 +118,14 @@ public final class LogTest {
         Check.due("another slice", mill.addRot(0, 4, 3), 32);
         Kerfhall thick = millWithLog(16, 16);
         thick.setSweep(0, 0, 2, 2);
-        Check.due("rot goes with the sweep", thick.addRot(0, 0, 8), woodOf(16, 2, 2));
-        Check.refused("log -1", INDEX, () -> mill.addRot(-1, 0, 1));
-        Check.refused("slice 6 and a wrong radius", INDEX, () -> mill.addRot(0, 6, 0));
-        Check.refused("radius 0", ARGUMENT, () -> mill.addRot(0, 0, 0));
-        Check.refused("radius 9", ARGUMENT, () -> mill.addRot(0, 0, 9));
+        Check.due("rot goes with the sweep", thick.addRot(0, 0, 8), Mills.woodOf(16, 2, 2));
+        Check.refused(mill, "log -1", INDEX, () -> mill.addRot(-1, 0, 1));
+        Check.refused(mill, "slice 6 and a wrong radius", INDEX, () -> mill.addRot(0, 6, 0));
+        Check.refused(mill, "radius 0", ARGUMENT, () -> mill.addRot(0, 0, 0));
+        Check.refused(mill, "radius 9", ARGUMENT, () -> mill.addRot(0, 0, 9));
         Kerfhall sawn = millWithSawnLog();
-        Check.refused("rot of a sawn log", UNSUPPORTED, () -> sawn.addRot(0, 0, 1));
-        Check.refused("wrong rot of a sawn log", ARGUMENT, () -> sawn.addRot(0, 0, -1));
+        Check.refused(sawn, "rot of a sawn log", UNSUPPORTED, () -> sawn.addRot(0, 0, 1));
+        Check.refused(sawn, "wrong rot of a sawn log", ARGUMENT, () -> sawn.addRot(0, 0, -1));
     }
 
     private static void promise6AddMetal() {
@@ -147,15 +135,15 @@ public final class LogTest {
         Check.due("metal in the corner", mill.addMetal(0, 5, 15, 15), false);
         mill.setSweep(0, 1, 2, 0);
         Check.due("metal by the true place", mill.addMetal(0, 1, 13, 8), true);
-        Check.refused("log 1", INDEX, () -> mill.addMetal(1, 0, 0, 0));
-        Check.refused("slice -1 and a wrong cell", INDEX, () -> mill.addMetal(0, -1, 16, 0));
-        Check.refused("x 16", ARGUMENT, () -> mill.addMetal(0, 0, 16, 0));
-        Check.refused("x -1", ARGUMENT, () -> mill.addMetal(0, 0, -1, 0));
-        Check.refused("y 16", ARGUMENT, () -> mill.addMetal(0, 0, 0, 16));
-        Check.refused("y -1", ARGUMENT, () -> mill.addMetal(0, 0, 0, -1));
+        Check.refused(mill, "log 1", INDEX, () -> mill.addMetal(1, 0, 0, 0));
+        Check.refused(mill, "slice -1 and a wrong cell", INDEX, () -> mill.addMetal(0, -1, 16, 0));
+        Check.refused(mill, "x 16", ARGUMENT, () -> mill.addMetal(0, 0, 16, 0));
+        Check.refused(mill, "x -1", ARGUMENT, () -> mill.addMetal(0, 0, -1, 0));
+        Check.refused(mill, "y 16", ARGUMENT, () -> mill.addMetal(0, 0, 0, 16));
+        Check.refused(mill, "y -1", ARGUMENT, () -> mill.addMetal(0, 0, 0, -1));
         Kerfhall sawn = millWithSawnLog();
-        Check.refused("metal of a sawn log", UNSUPPORTED, () -> sawn.addMetal(0, 0, 0, 0));
-        Check.refused("wrong metal of a sawn log", ARGUMENT, () -> sawn.addMetal(0, 0, 0, 99));
+        Check.refused(sawn, "metal of a sawn log", UNSUPPORTED, () -> sawn.addMetal(0, 0, 0, 0));
+        Check.refused(sawn, "wrong metal of a sawn log", ARGUMENT, () -> sawn.addMetal(0, 0, 0, 99));
     }
 
     private static void promise7Scan() {
@@ -166,12 +154,12 @@ public final class LogTest {
         }
         mill.addLog(8, 8, false);
         Check.due("scan of another log", mill.scan(1, 'l'), true);
-        Check.refused("log 2 and no such kind", INDEX, () -> mill.scan(2, 'x'));
-        Check.refused("no such kind", ARGUMENT, () -> mill.scan(0, 'S'));
-        Check.refused("no such kind either", ARGUMENT, () -> mill.scan(0, (char) 0));
+        Check.refused(mill, "log 2 and no such kind", INDEX, () -> mill.scan(2, 'x'));
+        Check.refused(mill, "no such kind", ARGUMENT, () -> mill.scan(0, 'S'));
+        Check.refused(mill, "no such kind either", ARGUMENT, () -> mill.scan(0, (char) 0));
         Kerfhall sawn = millWithSawnLog();
-        Check.refused("scan of a sawn log", UNSUPPORTED, () -> sawn.scan(0, 'r'));
-        Check.refused("wrong scan of a sawn log", ARGUMENT, () -> sawn.scan(0, 'k'));
+        Check.refused(sawn, "scan of a sawn log", UNSUPPORTED, () -> sawn.scan(0, 'r'));
+        Check.refused(sawn, "wrong scan of a sawn log", ARGUMENT, () -> sawn.scan(0, 'k'));
     }
 
     private static void promise8VolumeOf() {
@@ -181,8 +169,8 @@ public final class LogTest {
         Check.due("volume of a cone", millWithLog(8, 4).volumeOf(0), 52 + 52 + 32 + 32 + 16 + 12);
         Kerfhall sawn = millWithSawnLog();
         Check.due("volume of a sawn log", sawn.volumeOf(0), 72);
-        Check.refused("log 1", INDEX, () -> sawn.volumeOf(1));
-        Check.refused("log -1", INDEX, () -> sawn.volumeOf(-1));
+        Check.refused(sawn, "log 1", INDEX, () -> sawn.volumeOf(1));
+        Check.refused(sawn, "log -1", INDEX, () -> sawn.volumeOf(-1));
     }
 
     private static void promise9SeenAt() {
@@ -195,14 +183,14 @@ public final class LogTest {
         mill.addMetal(0, 0, 9, 7);
         mill.addMetal(0, 0, 12, 7);
         mill.addMetal(0, 0, 5, 7);
-        Check.refused("not scanned", UNSUPPORTED, () -> mill.seenAt(0, 0, 8, 8));
+        Check.refused(mill, "not scanned", UNSUPPORTED, () -> mill.seenAt(0, 0, 8, 8));
         mill.scan(0, 'r');
         mill.scan(0, 'm');
-        Check.refused("not scanned by 's' or 'l'", UNSUPPORTED, () -> mill.seenAt(0, 0, 8, 8));
-        Check.refused("no such cell", ARGUMENT, () -> mill.seenAt(0, 0, 16, 8));
-        Check.refused("no such cell", ARGUMENT, () -> mill.seenAt(0, 0, 8, -1));
-        Check.refused("no such slice", INDEX, () -> mill.seenAt(0, 6, 16, 8));
-        Check.refused("no such log", INDEX, () -> mill.seenAt(1, 0, 0, 0));
+        Check.refused(mill, "not scanned by 's' or 'l'", UNSUPPORTED, () -> mill.seenAt(0, 0, 8, 8));
+        Check.refused(mill, "no such cell", ARGUMENT, () -> mill.seenAt(0, 0, 16, 8));
+        Check.refused(mill, "no such cell", ARGUMENT, () -> mill.seenAt(0, 0, 8, -1));
+        Check.refused(mill, "no such slice", INDEX, () -> mill.seenAt(0, 6, 16, 8));
+        Check.refused(mill, "no such log", INDEX, () -> mill.seenAt(1, 0, 0, 0));
         mill.scan(0, 's');
         Check.due("wood as without sweep", mill.seenAt(0, 0, 6, 8), 'w');
         Check.due("no knot where no wood is", mill.seenAt(0, 0, 5, 8), 'w');

@@ -38,33 +38,25 @@ public final class OrderTest {
         return mill;
     }
 
-    private static String statesOf(Kerfhall mill) {
-        StringBuilder all = new StringBuilder();
-        for (int board = 0; board < mill.boards(); board++) {
-            all.append(mill.stateOf(board));
-        }
-        return all.toString();
-    }
-
     private static void promise37AddOrder() {
         Kerfhall mill = new Kerfhall();
-        Check.refused("thickness 1", ARGUMENT, () -> mill.addOrder(1, 0, 1, 0, 0, true));
-        Check.refused("thickness 4", ARGUMENT, () -> mill.addOrder(4, 0, 1, 0, 0, true));
-        Check.refused("worst -1", ARGUMENT, () -> mill.addOrder(2, -1, 1, 0, 0, true));
-        Check.refused("worst 4", ARGUMENT, () -> mill.addOrder(2, 4, 1, 0, 0, true));
-        Check.refused("length 0", ARGUMENT, () -> mill.addOrder(2, 0, 0, 0, 0, true));
-        Check.refused("length 201", ARGUMENT, () -> mill.addOrder(2, 0, 201, 0, 0, true));
-        Check.refused("tolerance -1", ARGUMENT, () -> mill.addOrder(2, 0, 1, -1, 0, true));
-        Check.refused("tolerance 21", ARGUMENT, () -> mill.addOrder(2, 0, 1, 21, 0, true));
-        Check.refused("price -1", ARGUMENT, () -> mill.addOrder(2, 0, 1, 0, -1, true));
-        Check.refused("price 100", ARGUMENT, () -> mill.addOrder(2, 0, 1, 0, 100, true));
+        Check.refused(mill, "thickness 1", ARGUMENT, () -> mill.addOrder(1, 0, 1, 0, 0, true));
+        Check.refused(mill, "thickness 4", ARGUMENT, () -> mill.addOrder(4, 0, 1, 0, 0, true));
+        Check.refused(mill, "worst -1", ARGUMENT, () -> mill.addOrder(2, -1, 1, 0, 0, true));
+        Check.refused(mill, "worst 4", ARGUMENT, () -> mill.addOrder(2, 4, 1, 0, 0, true));
+        Check.refused(mill, "length 0", ARGUMENT, () -> mill.addOrder(2, 0, 0, 0, 0, true));
+        Check.refused(mill, "length 201", ARGUMENT, () -> mill.addOrder(2, 0, 201, 0, 0, true));
+        Check.refused(mill, "tolerance -1", ARGUMENT, () -> mill.addOrder(2, 0, 1, -1, 0, true));
+        Check.refused(mill, "tolerance 21", ARGUMENT, () -> mill.addOrder(2, 0, 1, 21, 0, true));
+        Check.refused(mill, "price -1", ARGUMENT, () -> mill.addOrder(2, 0, 1, 0, -1, true));
+        Check.refused(mill, "price 100", ARGUMENT, () -> mill.addOrder(2, 0, 1, 0, 100, true));
         for (int order = 0; order < 8; order++) {
             boolean isLow = order % 2 == 0;
             Check.due("number", mill.addOrder(isLow ? 2 : 3, isLow ? 0 : 3, isLow ? 1 : 200, isLow ? 0 : 20,
                     isLow ? 0 : 99, isLow), order);
         }
-        Check.refused("a ninth order", STATE, () -> mill.addOrder(2, 0, 1, 0, 0, true));
-        Check.refused("a wrong ninth order", ARGUMENT, () -> mill.addOrder(2, 0, 1, 0, 100, true));
+        Check.refused(mill, "a ninth order", STATE, () -> mill.addOrder(2, 0, 1, 0, 0, true));
+        Check.refused(mill, "a wrong ninth order", ARGUMENT, () -> mill.addOrder(2, 0, 1, 0, 100, true));
     }
 
     private static void promise38Deliver() {
@@ -74,17 +66,17 @@ public final class OrderTest {
         mill.addOrder(2, 0, 10, 1, 7, false);
         mill.addOrder(2, 0, 16, 1, 1, false);
         mill.addOrder(3, 3, 1, 1, 99, false);
-        Check.refused("order 3", INDEX, () -> mill.deliver(3));
-        Check.refused("order -1", INDEX, () -> mill.deliver(-1));
+        Check.refused(mill, "order 3", INDEX, () -> mill.deliver(3));
+        Check.refused(mill, "order -1", INDEX, () -> mill.deliver(-1));
         Check.due("6 and 4 slices", mill.deliver(0), 10);
-        Check.due("states", statesOf(mill), "ddyy");
+        Check.due("states", Mills.statesOf(mill), "ddyy");
         Check.due("money", mill.money(), 70L);
         Check.due("balance of no certified order", mill.balance(), 48);
-        Check.refused("delivered", UNSUPPORTED, () -> mill.deliver(0));
-        Check.refused("too little", UNSUPPORTED, () -> mill.deliver(1));
-        Check.due("nothing is taken", statesOf(mill), "ddyy");
+        Check.refused(mill, "delivered", UNSUPPORTED, () -> mill.deliver(0));
+        Check.refused(mill, "too little", UNSUPPORTED, () -> mill.deliver(1));
+        Check.due("nothing is taken", Mills.statesOf(mill), "ddyy");
         Check.due("an order of nothing is delivered", mill.deliver(2), 0);
-        Check.refused("but once", UNSUPPORTED, () -> mill.deliver(2));
+        Check.refused(mill, "but once", UNSUPPORTED, () -> mill.deliver(2));
         Check.due("money", mill.money(), 70L);
         Check.due("sound", mill.isSound(), true);
     }
@@ -96,11 +88,11 @@ public final class OrderTest {
         mill.addOrder(2, 3, 8, 3, 1, false);
         mill.addOrder(2, 3, 8, 4, 1, false);
         mill.addOrder(2, 3, 8, 1, 1, false);
-        Check.refused("18 of 20 less 1", UNSUPPORTED, () -> mill.deliver(1));
-        Check.refused("6 of 8 less 1", UNSUPPORTED, () -> mill.deliver(4));
+        Check.refused(mill, "18 of 20 less 1", UNSUPPORTED, () -> mill.deliver(1));
+        Check.refused(mill, "6 of 8 less 1", UNSUPPORTED, () -> mill.deliver(4));
         Check.due("12 are too many for 8 and 3", mill.deliver(2), 6);
         Check.due("12 are not for 8 and 4", mill.deliver(3), 12);
-        Check.refused("none of 19 less 1", UNSUPPORTED, () -> mill.deliver(0));
+        Check.refused(mill, "none of 19 less 1", UNSUPPORTED, () -> mill.deliver(0));
         Kerfhall other = millWithYard(3, 0);
         other.addOrder(2, 3, 19, 1, 1, false);
         Check.due("18 of 19 less 1", other.deliver(0), 18);
@@ -112,7 +104,7 @@ public final class OrderTest {
         mill.trim(0, 0, 5);
         mill.addOrder(2, 3, 7, 0, 1, false);
         Check.due("a board that is too long is passed by", mill.deliver(0), 7);
-        Check.due("states", statesOf(mill), "dyd");
+        Check.due("states", Mills.statesOf(mill), "dyd");
     }
 
     private static void promise38Fitness() {
@@ -135,7 +127,7 @@ public final class OrderTest {
         Check.due("moisture", mill.moisture(0), 19);
         mill.empty();
         mill.addOrder(2, 3, 6, 0, 1, false);
-        Check.refused("too wet", UNSUPPORTED, () -> mill.deliver(0));
+        Check.refused(mill, "too wet", UNSUPPORTED, () -> mill.deliver(0));
         mill.charge(1);
         mill.tick(24);
         Check.due("moisture", mill.moisture(1), 17);
@@ -143,8 +135,8 @@ public final class OrderTest {
         mill.addOrder(2, 1, 6, 0, 1, false);
         mill.addOrder(3, 3, 6, 0, 1, false);
         mill.addOrder(2, 2, 6, 0, 1, false);
-        Check.refused("a worse grade", UNSUPPORTED, () -> mill.deliver(1));
-        Check.refused("another thickness", UNSUPPORTED, () -> mill.deliver(2));
+        Check.refused(mill, "a worse grade", UNSUPPORTED, () -> mill.deliver(1));
+        Check.refused(mill, "another thickness", UNSUPPORTED, () -> mill.deliver(2));
         Check.due("the worst grade", mill.deliver(3), 6);
         Check.due("sold", mill.soldAs(1), 2);
     }
@@ -155,14 +147,14 @@ public final class OrderTest {
         mill.addOrder(2, 3, 18, 0, 1, true);
         mill.addOrder(2, 3, 12, 0, 1, true);
         mill.addOrder(2, 3, 6, 0, 1, true);
-        Check.refused("144 cells", UNSUPPORTED, () -> mill.deliver(0));
-        Check.due("nothing is taken", statesOf(mill) + mill.balance(), "yyyy96");
+        Check.refused(mill, "144 cells", UNSUPPORTED, () -> mill.deliver(0));
+        Check.due("nothing is taken", Mills.statesOf(mill) + mill.balance(), "yyyy96");
         mill.rip(0, 6, 3);
         mill.trim(1, 0, 2);
         mill.trim(2, 0, 4);
         Check.due("36, 16 and 32 cells", mill.deliver(1), 12);
         Check.due("the balance is less by these", mill.balance(), 12);
-        Check.refused("48 cells", UNSUPPORTED, () -> mill.deliver(2));
+        Check.refused(mill, "48 cells", UNSUPPORTED, () -> mill.deliver(2));
         mill.rip(3, 6, 3);
         mill.trim(3, 0, 2);
         mill.addOrder(2, 3, 2, 0, 1, true);
@@ -174,9 +166,9 @@ public final class OrderTest {
     private static void promise39SoldAs() {
         Kerfhall mill = millWithYard(2, 0);
         mill.addOrder(2, 3, 6, 0, 1, false);
-        Check.refused("not delivered", MISSING, () -> mill.soldAs(0));
-        Check.refused("board 2", INDEX, () -> mill.soldAs(2));
-        Check.refused("board -1", INDEX, () -> mill.soldAs(-1));
+        Check.refused(mill, "not delivered", MISSING, () -> mill.soldAs(0));
+        Check.refused(mill, "board 2", INDEX, () -> mill.soldAs(2));
+        Check.refused(mill, "board -1", INDEX, () -> mill.soldAs(-1));
         mill.setRule(0, 0, 0, false, false);
         mill.deliver(0);
         Check.due("sold", mill.soldAs(0), 0);
@@ -184,7 +176,7 @@ public final class OrderTest {
             mill.setRule(rule, 0, 0, rule == 2, true);
         }
         Check.due("sold", mill.soldAs(0), 0);
-        Check.refused("not delivered", MISSING, () -> mill.soldAs(1));
+        Check.refused(mill, "not delivered", MISSING, () -> mill.soldAs(1));
         Check.due("grade now", mill.gradeOf(0), 0);
     }
 
@@ -273,12 +265,12 @@ public final class OrderTest {
 
     private static void promise47YieldShare() {
         Kerfhall mill = new Kerfhall();
-        Check.refused("no logs", MISSING, () -> mill.yieldShare());
+        Check.refused(mill, "no logs", MISSING, () -> mill.yieldShare());
         mill.addLog(4, 4, false);
         mill.scan(0, 's');
         mill.addLog(8, 8, false);
         mill.scan(1, 's');
-        Check.refused("no sawn logs", MISSING, () -> mill.yieldShare());
+        Check.refused(mill, "no sawn logs", MISSING, () -> mill.yieldShare());
         mill.saw(0);
         Check.due("48 of 72", mill.yieldShare(), 48f / 72f);
         mill.saw(1);
@@ -300,12 +292,12 @@ public final class OrderTest {
 
     private static void promise48MeanMoisture() {
         Kerfhall mill = new Kerfhall();
-        Check.refused("no boards", MISSING, () -> mill.meanMoisture());
+        Check.refused(mill, "no boards", MISSING, () -> mill.meanMoisture());
         for (int log = 0; log < 3; log++) {
             mill.addLog(4, 4, false);
             mill.scan(log, 's');
         }
-        Check.refused("no boards", MISSING, () -> mill.meanMoisture());
+        Check.refused(mill, "no boards", MISSING, () -> mill.meanMoisture());
         for (int log = 0; log < 3; log++) {
             mill.saw(log);
         }

@@ -21,14 +21,6 @@ public final class SawTest {
         return mill;
     }
 
-    private static String partsOf(Kerfhall mill, int board) {
-        StringBuilder all = new StringBuilder();
-        for (char what : "xtywsl".toCharArray()) {
-            all.append(mill.partOf(board, what)).append(' ');
-        }
-        return all.toString();
-    }
-
     private static String leftOf(Kerfhall mill) {
         return mill.chips() + " chips, " + mill.dust() + " dust, " + mill.balance() + " balance";
     }
@@ -37,23 +29,23 @@ public final class SawTest {
         Kerfhall mill = millWithThinLogs(2);
         mill.addLog(8, 8, false);
         Check.due("boards", mill.saw(0), 1);
-        Check.due("parts", partsOf(mill, 0), "7 2 6 4 0 6 ");
+        Check.due("parts", Mills.partsOf(mill, 0), "7 2 6 4 0 6");
         Check.due("left", leftOf(mill), "12 chips, 12 dust, 48 balance");
         Check.due("wear", mill.wear(), 1);
         Check.due("in the queue", mill.queue(), 1);
         Check.due("an uncertified log", mill.saw(1), 1);
         Check.due("left", leftOf(mill), "24 chips, 24 dust, 48 balance");
-        Check.refused("sawn", UNSUPPORTED, () -> mill.saw(0));
-        Check.refused("not scanned", UNSUPPORTED, () -> mill.saw(2));
+        Check.refused(mill, "sawn", UNSUPPORTED, () -> mill.saw(0));
+        Check.refused(mill, "not scanned", UNSUPPORTED, () -> mill.saw(2));
         mill.scan(2, 'r');
         mill.scan(2, 'm');
-        Check.refused("not scanned by 's' or 'l'", UNSUPPORTED, () -> mill.saw(2));
-        Check.refused("log 3", INDEX, () -> mill.saw(3));
-        Check.refused("log -1", INDEX, () -> mill.saw(-1));
+        Check.refused(mill, "not scanned by 's' or 'l'", UNSUPPORTED, () -> mill.saw(2));
+        Check.refused(mill, "log 3", INDEX, () -> mill.saw(3));
+        Check.refused(mill, "log -1", INDEX, () -> mill.saw(-1));
         mill.scan(2, 'l');
         Check.due("two boards", mill.saw(2), 2);
-        Check.due("first board", partsOf(mill, 2), "6 3 4 8 0 6 ");
-        Check.due("second board", partsOf(mill, 3), "10 2 6 4 0 6 ");
+        Check.due("first board", Mills.partsOf(mill, 2), "6 3 4 8 0 6");
+        Check.due("second board", Mills.partsOf(mill, 3), "10 2 6 4 0 6");
         Check.due("sound", mill.isSound(), true);
     }
 
@@ -86,10 +78,10 @@ public final class SawTest {
         Check.due("no board", mill.boards(), 0);
         Check.due("all is chips", leftOf(mill), "72 chips, 0 dust, 0 balance");
         Check.due("wear", mill.wear(), 9);
-        Check.refused("stopped", STATE, () -> mill.saw(1));
-        Check.refused("stopped, and sawn", UNSUPPORTED, () -> mill.saw(0));
+        Check.refused(mill, "stopped", STATE, () -> mill.saw(1));
+        Check.refused(mill, "stopped, and sawn", UNSUPPORTED, () -> mill.saw(0));
         mill.tick(4);
-        Check.refused("stopped still", STATE, () -> mill.saw(1));
+        Check.refused(mill, "stopped still", STATE, () -> mill.saw(1));
         mill.tick(1);
         Check.due("not any more", mill.saw(1), 1);
         Check.due("wear at most 9", mill.wear(), 9);
@@ -122,7 +114,7 @@ public final class SawTest {
         second.scan(0, 's');
         second.addMetal(0, 4, 11, 8);
         Check.due("the board ahead is cut", second.saw(0), 1);
-        Check.due("its parts", partsOf(second, 0), "6 3 4 8 0 6 ");
+        Check.due("its parts", Mills.partsOf(second, 0), "6 3 4 8 0 6");
         Check.due("wear", second.wear(), 9);
         Check.due("all other wood", second.chips() + second.dust() + second.inBoard(0, 'v'), 312);
         Check.due("the wood of the column 9", second.dust(), 48);
@@ -134,15 +126,15 @@ public final class SawTest {
         for (int log = 0; log < 7; log++) {
             mill.saw(log);
         }
-        Check.due("with a wear of 5", partsOf(mill, 5), "7 2 6 4 0 6 ");
-        Check.due("with a wear of 6", partsOf(mill, 6), "7 2 7 4 0 6 ");
+        Check.due("with a wear of 5", Mills.partsOf(mill, 5), "7 2 6 4 0 6");
+        Check.due("with a wear of 6", Mills.partsOf(mill, 6), "7 2 7 4 0 6");
         Check.due("its wood", mill.inBoard(6, 'v'), 36);
         Check.due("its wane", mill.inBoard(6, 'n'), 12);
         Check.due("its grade", mill.gradeOf(6), 2);
         Check.due("left", leftOf(mill), (6 * 12 + 24) + " chips, 84 dust, 48 balance");
         mill.file();
         mill.saw(7);
-        Check.due("filed", partsOf(mill, 7), "7 2 6 4 0 6 ");
+        Check.due("filed", Mills.partsOf(mill, 7), "7 2 6 4 0 6");
         Check.due("sound", mill.isSound(), true);
     }
 
@@ -174,7 +166,7 @@ public final class SawTest {
         mill.addRot(0, 0, 1);
         mill.addKnot(0, 5, 7, 7, 2);
         mill.saw(0);
-        Check.due("parts", partsOf(mill, 0), "7 2 6 4 1 4 ");
+        Check.due("parts", Mills.partsOf(mill, 0), "7 2 6 4 1 4");
         Check.due("left", leftOf(mill), "28 chips, 12 dust, 32 balance");
     }
 
@@ -190,7 +182,7 @@ public final class SawTest {
         Check.due("the last one", mill.partOf(4, 'x') + mill.partOf(4, 't'), 16);
         int wood = 0;
         for (int board = 0; board < count; board++) {
-            Check.due("all rows", partsOf(mill, board).endsWith(" 2 0 16 0 6 "), true);
+            Check.due("all rows", Mills.partsOf(mill, board).endsWith(" 2 0 16 0 6"), true);
             wood += mill.inBoard(board, 'v');
         }
         Check.due("four columns are lost, and one is chips", mill.dust() + mill.chips(), mill.volumeOf(0) - wood);
@@ -211,7 +203,7 @@ public final class SawTest {
         mill.addRot(0, 0, 1);
         mill.setPrice(2, 0, 0);
         mill.saw(0);
-        Check.due("parts", partsOf(mill, 0), "7 3 6 4 0 6 ");
+        Check.due("parts", Mills.partsOf(mill, 0), "7 3 6 4 0 6");
         Check.due("one cell", mill.inBoard(0, 'r'), 1);
         mill.setRule(2, 100, 20, false, true);
         Check.due("one cell is rot", mill.gradeOf(0), 3);
@@ -245,7 +237,7 @@ public final class SawTest {
         Check.due("wear before the file", metal.file(), 9);
         Check.due("wear behind it", metal.wear(), 0);
         Check.due("the stop stays", metal.stopped(), 5);
-        Check.refused("stopped", STATE, () -> metal.saw(1));
+        Check.refused(metal, "stopped", STATE, () -> metal.saw(1));
         for (int left = 4; left >= 0; left--) {
             metal.tick(1);
             Check.due("ticks of the stop", metal.stopped(), left);
@@ -256,17 +248,17 @@ public final class SawTest {
 
     private static void promise19And20BoardsPartOf() {
         Kerfhall mill = millWithThinLogs(3);
-        Check.refused("no board", INDEX, () -> mill.partOf(0, 'x'));
+        Check.refused(mill, "no board", INDEX, () -> mill.partOf(0, 'x'));
         for (int log = 0; log < 3; log++) {
             Check.due("boards", mill.boards(), log);
             mill.saw(log);
         }
         Check.due("boards", mill.boards(), 3);
-        Check.due("parts", partsOf(mill, 2), "7 2 6 4 0 6 ");
-        Check.refused("board 3, and no such letter", INDEX, () -> mill.partOf(3, 'v'));
-        Check.refused("board -1", INDEX, () -> mill.partOf(-1, 'x'));
-        Check.refused("no such letter", ARGUMENT, () -> mill.partOf(0, 'v'));
-        Check.refused("no such letter", ARGUMENT, () -> mill.partOf(0, 'X'));
+        Check.due("parts", Mills.partsOf(mill, 2), "7 2 6 4 0 6");
+        Check.refused(mill, "board 3, and no such letter", INDEX, () -> mill.partOf(3, 'v'));
+        Check.refused(mill, "board -1", INDEX, () -> mill.partOf(-1, 'x'));
+        Check.refused(mill, "no such letter", ARGUMENT, () -> mill.partOf(0, 'v'));
+        Check.refused(mill, "no such letter", ARGUMENT, () -> mill.partOf(0, 'X'));
     }
 
     private static void promise21InBoard() {
@@ -280,14 +272,14 @@ public final class SawTest {
         mill.addKnot(0, 1, 6, 9, 1);
         mill.saw(0);
         // The columns 7 to 9, the rows 6 to 9: 10 cells of wood and 2 of wane in a slice.
-        Check.due("parts", partsOf(mill, 0), "7 3 6 4 0 6 ");
+        Check.due("parts", Mills.partsOf(mill, 0), "7 3 6 4 0 6");
         Check.due("wood", mill.inBoard(0, 'v'), 60);
         Check.due("wane", mill.inBoard(0, 'n'), 12);
         Check.due("knots of the slice with the most", mill.inBoard(0, 'k'), 4);
         Check.due("rot", mill.inBoard(0, 'r'), 4 + 10);
-        Check.refused("board 1, and no such letter", INDEX, () -> mill.inBoard(1, 'x'));
-        Check.refused("no such letter", ARGUMENT, () -> mill.inBoard(0, 'x'));
-        Check.refused("no such letter", ARGUMENT, () -> mill.inBoard(0, 'w'));
+        Check.refused(mill, "board 1, and no such letter", INDEX, () -> mill.inBoard(1, 'x'));
+        Check.refused(mill, "no such letter", ARGUMENT, () -> mill.inBoard(0, 'x'));
+        Check.refused(mill, "no such letter", ARGUMENT, () -> mill.inBoard(0, 'w'));
     }
 
     private static void promise22GradeOf() {
@@ -310,8 +302,8 @@ public final class SawTest {
         Check.due("rot refused", mill.gradeOf(1), 3);
         mill.setRule(0, 0, 0, true, false);
         Check.due("rot allowed", mill.gradeOf(1), 0);
-        Check.refused("board 3", INDEX, () -> mill.gradeOf(3));
-        Check.refused("board -1", INDEX, () -> mill.gradeOf(-1));
+        Check.refused(mill, "board 3", INDEX, () -> mill.gradeOf(3));
+        Check.refused(mill, "board -1", INDEX, () -> mill.gradeOf(-1));
         mill.tick(50);
         Check.due("a sawn log does not lie", mill.gradeOf(1), 0);
     }
@@ -353,10 +345,10 @@ public final class SawTest {
         mill.addOrder(2, 3, 6, 0, 1, false);
         mill.deliver(0);
         Check.due("delivered", mill.stateOf(0), 'd');
-        Check.refused("state of board 2", INDEX, () -> mill.stateOf(2));
-        Check.refused("state of board -1", INDEX, () -> mill.stateOf(-1));
-        Check.refused("log of board 2", INDEX, () -> mill.logOf(2));
-        Check.refused("log of board -1", INDEX, () -> mill.logOf(-1));
+        Check.refused(mill, "state of board 2", INDEX, () -> mill.stateOf(2));
+        Check.refused(mill, "state of board -1", INDEX, () -> mill.stateOf(-1));
+        Check.refused(mill, "log of board 2", INDEX, () -> mill.logOf(2));
+        Check.refused(mill, "log of board -1", INDEX, () -> mill.logOf(-1));
     }
 
     private static void promise25Trim() {
@@ -371,15 +363,15 @@ public final class SawTest {
         Check.due("left", leftOf(mill), "20 chips, 12 dust, 48 balance");
         Check.due("the last slices go", mill.trim(0, 1, 3), 16);
         Check.due("grade without the knots", mill.gradeOf(0), 0);
-        Check.due("parts", partsOf(mill, 0), "7 2 6 4 1 3 ");
+        Check.due("parts", Mills.partsOf(mill, 0), "7 2 6 4 1 3");
         Check.due("wood", mill.inBoard(0, 'v'), 24);
-        Check.refused("one slice", ARGUMENT, () -> mill.trim(0, 1, 1));
-        Check.refused("ahead of the board", ARGUMENT, () -> mill.trim(0, 0, 3));
-        Check.refused("behind the board", ARGUMENT, () -> mill.trim(0, 3, 2));
-        Check.refused("too long", ARGUMENT, () -> mill.trim(0, 1, 4));
-        Check.refused("greatest first", ARGUMENT, () -> mill.trim(0, Integer.MAX_VALUE, 2));
-        Check.refused("greatest length", ARGUMENT, () -> mill.trim(0, 1, Integer.MAX_VALUE));
-        Check.refused("board 1, and nothing of it", INDEX, () -> mill.trim(1, 0, 0));
+        Check.refused(mill, "one slice", ARGUMENT, () -> mill.trim(0, 1, 1));
+        Check.refused(mill, "ahead of the board", ARGUMENT, () -> mill.trim(0, 0, 3));
+        Check.refused(mill, "behind the board", ARGUMENT, () -> mill.trim(0, 3, 2));
+        Check.refused(mill, "too long", ARGUMENT, () -> mill.trim(0, 1, 4));
+        Check.refused(mill, "greatest first", ARGUMENT, () -> mill.trim(0, Integer.MAX_VALUE, 2));
+        Check.refused(mill, "greatest length", ARGUMENT, () -> mill.trim(0, 1, Integer.MAX_VALUE));
+        Check.refused(mill, "board 1, and nothing of it", INDEX, () -> mill.trim(1, 0, 0));
         Check.due("two slices stay", mill.trim(0, 2, 2), 8);
         Check.due("sound", mill.isSound(), true);
     }
@@ -399,7 +391,7 @@ public final class SawTest {
         mill.scan(0, 's');
         mill.setSweep(0, 0, 0, 2);
         mill.saw(0);
-        Check.due("parts", partsOf(mill, 0), "6 3 4 8 0 6 ");
+        Check.due("parts", Mills.partsOf(mill, 0), "6 3 4 8 0 6");
         // All of it is wood, but for the rows 4 and 5 in the slice 0.
         int chips = mill.chips();
         int dust = mill.dust();
@@ -410,13 +402,13 @@ public final class SawTest {
         Check.due("a row to dust, two to chips", mill.rip(0, 5, 3), 18);
         Check.due("dust", mill.dust(), dust + 51);
         Check.due("chips", mill.chips(), chips + 36);
-        Check.due("parts", partsOf(mill, 0), "6 3 5 3 0 6 ");
-        Check.refused("two rows", ARGUMENT, () -> mill.rip(0, 5, 2));
-        Check.refused("ahead of the board", ARGUMENT, () -> mill.rip(0, 4, 3));
-        Check.refused("behind the board", ARGUMENT, () -> mill.rip(0, 6, 3));
-        Check.refused("greatest row", ARGUMENT, () -> mill.rip(0, Integer.MAX_VALUE, 3));
-        Check.refused("greatest width", ARGUMENT, () -> mill.rip(0, 5, Integer.MAX_VALUE));
-        Check.refused("board 2, and nothing of it", INDEX, () -> mill.rip(2, 0, 0));
+        Check.due("parts", Mills.partsOf(mill, 0), "6 3 5 3 0 6");
+        Check.refused(mill, "two rows", ARGUMENT, () -> mill.rip(0, 5, 2));
+        Check.refused(mill, "ahead of the board", ARGUMENT, () -> mill.rip(0, 4, 3));
+        Check.refused(mill, "behind the board", ARGUMENT, () -> mill.rip(0, 6, 3));
+        Check.refused(mill, "greatest row", ARGUMENT, () -> mill.rip(0, Integer.MAX_VALUE, 3));
+        Check.refused(mill, "greatest width", ARGUMENT, () -> mill.rip(0, 5, Integer.MAX_VALUE));
+        Check.refused(mill, "board 2, and nothing of it", INDEX, () -> mill.rip(2, 0, 0));
         Check.due("sound", mill.isSound(), true);
     }
 
@@ -429,10 +421,10 @@ public final class SawTest {
         mill.setRule(0, 0, 0, true, true);
         Check.due("the class of the bin stays", mill.classOf(0), 20);
         mill.charge(0);
-        Check.refused("trim in the kiln", UNSUPPORTED, () -> mill.trim(0, 0, 3));
-        Check.refused("rip in the kiln", UNSUPPORTED, () -> mill.rip(0, 6, 3));
-        Check.refused("wrong trim in the kiln", ARGUMENT, () -> mill.trim(0, 0, 5));
-        Check.refused("wrong rip in the kiln", ARGUMENT, () -> mill.rip(0, 5, 4));
+        Check.refused(mill, "trim in the kiln", UNSUPPORTED, () -> mill.trim(0, 0, 3));
+        Check.refused(mill, "rip in the kiln", UNSUPPORTED, () -> mill.rip(0, 6, 3));
+        Check.refused(mill, "wrong trim in the kiln", ARGUMENT, () -> mill.trim(0, 0, 5));
+        Check.refused(mill, "wrong rip in the kiln", ARGUMENT, () -> mill.rip(0, 5, 4));
         mill.setStep(0, 9);
         mill.tick(5);
         mill.empty();
@@ -440,8 +432,8 @@ public final class SawTest {
         Check.due("rip in the yard", mill.rip(0, 6, 3), 6);
         mill.addOrder(2, 3, 3, 0, 1, false);
         mill.deliver(0);
-        Check.refused("trim of a delivered one", UNSUPPORTED, () -> mill.trim(0, 0, 2));
-        Check.refused("rip of a delivered one", UNSUPPORTED, () -> mill.rip(0, 6, 3));
+        Check.refused(mill, "trim of a delivered one", UNSUPPORTED, () -> mill.trim(0, 0, 2));
+        Check.refused(mill, "rip of a delivered one", UNSUPPORTED, () -> mill.rip(0, 6, 3));
         Check.due("the balance does not hear of it", mill.balance(), 48);
         Check.due("sound", mill.isSound(), true);
     }

@@ -1,4 +1,6 @@
-/** Empty and full lists: logs, boards, the queue, bins, the kiln, the yard and orders, as far as calls can fill them. */
+import java.util.List;
+
+/** Empty and full lists: logs, boards, the queue, bins, the kiln, the yard, orders, as far as calls can fill them. */
 public final class FullTest {
     /** Ten logs with five boards each: "at most 100" cannot come about. */
     private static final int MOST_BOARDS = 50;
@@ -35,6 +37,31 @@ public final class FullTest {
         Check.due("sound", mill.isSound(), true);
         Check.refused(mill, "board 50", IndexOutOfBoundsException.class, () -> mill.gradeOf(MOST_BOARDS));
         Check.refused(mill, "an eleventh log", IllegalStateException.class, () -> mill.addLog(16, 16, true));
+    }
+
+    /** "At most 100": as calls cannot make so many boards, the same one is put into the list again and again. */
+    private static void hundredBoards() {
+        for (int before = 94; before <= 97; before++) {
+            Kerfhall mill = Mills.ofLogs(2, 16, "s");
+            Mills.setPrices(mill, 10, 0);
+            for (int grade = 0; grade < 3; grade++) {
+                mill.setRule(grade, 100, 256, true, true);
+            }
+            mill.saw(0);
+            fillWithTheFirst((List<?>) Inside.held(mill, "allBoards"), before);
+            if (before + 5 <= 100) {
+                Check.due("5 boards more than " + before, mill.saw(1), 5);
+                Check.due("boards", mill.boards(), before + 5);
+            } else {
+                Check.refused(mill, "5 boards more than " + before, IllegalStateException.class, () -> mill.saw(1));
+            }
+        }
+    }
+
+    private static <T> void fillWithTheFirst(List<T> list, int size) {
+        while (list.size() < size) {
+            list.add(list.get(0));
+        }
     }
 
     /** "There are 4 bins for 6 boards each": 24 boards have room, and the next one jams until a bin is emptied. */
@@ -123,6 +150,7 @@ public final class FullTest {
 
     public static void main(String[] args) {
         mostBoards();
+        hundredBoards();
         fullBins();
         fullYard();
         emptyLists();

@@ -21,6 +21,30 @@ final class Inside {
         return inside.all.toString();
     }
 
+    /** What a field of a mill, or of something inside it, holds. */
+    static Object held(Object owner, String field) {
+        return valueOf(fieldOf(owner, field), owner);
+    }
+
+    /** Changes a number by hand, as no call does. */
+    static void add(Object owner, String field, int more) {
+        try {
+            fieldOf(owner, field).setInt(owner, (Integer) held(owner, field) + more);
+        } catch (IllegalAccessException closed) {
+            throw new IllegalStateException(closed);
+        }
+    }
+
+    private static Field fieldOf(Object owner, String name) {
+        try {
+            Field field = owner.getClass().getDeclaredField(name);
+            field.setAccessible(true);
+            return field;
+        } catch (NoSuchFieldException missing) {
+            throw new IllegalStateException(missing);
+        }
+    }
+
     private void tell(Object held) {
         if (held == null || held instanceof String || held instanceof Number || held instanceof Boolean
                 || held instanceof Character) {

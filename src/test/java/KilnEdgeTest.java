@@ -329,6 +329,23 @@ public final class KilnEdgeTest {
         Check.due("a stress of 6", five.hasChecks(0), true);
     }
 
+    /** "As much more stress as the drop is more": the drop of the step, also where no moisture is left to lose. */
+    private static void stressAtAMoistureOfSix() {
+        Kerfhall mill = charged();
+        for (int step = 0; step < 4; step++) {
+            mill.setStep(step, 4);
+        }
+        mill.tick(20);
+        Check.due("moisture", mill.moisture(0), 6);
+        mill.setStep(3, 9);
+        mill.tick(1);
+        Check.due("a stress of 5", mill.hasChecks(0), false);
+        mill.setStep(3, 5);
+        mill.tick(1);
+        Check.due("a stress of 6", mill.hasChecks(0), true);
+        Check.due("moisture", mill.moisture(0), 6);
+    }
+
     /** "It has checks from then on": also with less stress, in the yard, and delivered. */
     private static void checksStay() {
         Kerfhall mill = charged();
@@ -442,6 +459,7 @@ public final class KilnEdgeTest {
         notBelowSix();
         stressOfTwo();
         stressOfThree();
+        stressAtAMoistureOfSix();
         checksStay();
         stressAtLeastZero();
         conditioningTakesNoTime();

@@ -49,7 +49,8 @@ public final class KilnTest {
         Check.due("the bin of the class goes ahead", mill.tick(1), 0);
         Check.due("bins", Mills.binsOf(mill), "6 of 20, 1 of 21, 1 of 22, 0, 2 wait");
         mill.tick(1);
-        Check.due("a full bin gives way to an empty one", Mills.binsOf(mill), "6 of 20, 1 of 21, 1 of 22, 1 of 20, 1 wait");
+        Check.due("a full bin gives way to an empty one", Mills.binsOf(mill),
+                "6 of 20, 1 of 21, 1 of 22, 1 of 20, 1 wait");
         gradeAll(mill, 3);
         Check.due("jams", mill.tick(50), 50);
         Check.due("the board stays", Mills.binsOf(mill), "6 of 20, 1 of 21, 1 of 22, 1 of 20, 1 wait");

@@ -1,3 +1,5 @@
+import java.util.List;
+
 /** The boundary cases that the document's words on orders and on what is counted name, a test for each sentence. */
 public final class OrderEdgeTest {
     private static final Class<UnsupportedOperationException> UNSUPPORTED = UnsupportedOperationException.class;
@@ -392,6 +394,30 @@ public final class OrderEdgeTest {
         Check.due("all of the wood", sum, mill.volumeOf(0) + mill.volumeOf(1));
     }
 
+    /** What no call brings about is done by hand here: cells that are lost, or too many, or not as in the log. */
+    private static void unsound() {
+        Kerfhall mill = Mills.ofYard(2);
+        Object stock = Inside.held(mill, "stock");
+        for (String kind : new String[] {"chips", "dust", "burnt"}) {
+            for (int more : new int[] {1, -1}) {
+                Inside.add(stock, kind, more);
+                Check.due(more + " of " + kind, mill.isSound(), false);
+                Inside.add(stock, kind, -more);
+                Check.due("again as it was", mill.isSound(), true);
+            }
+        }
+        for (Object board : (List<?>) Inside.held(mill, "allBoards")) {
+            for (String kind : new String[] {"wood", "knots", "rot"}) {
+                Inside.add(board, kind, 1);
+                Inside.add(stock, "chips", kind.equals("wood") ? -1 : 0);
+                Check.due("a board with other " + kind + " than its log", mill.isSound(), false);
+                Inside.add(board, kind, -1);
+                Inside.add(stock, "chips", kind.equals("wood") ? 1 : 0);
+                Check.due("again as it was", mill.isSound(), true);
+            }
+        }
+    }
+
     public static void main(String[] args) {
         ordersAreNumbered();
         ofTheThickness();
@@ -412,6 +438,7 @@ public final class OrderEdgeTest {
         shares();
         means();
         sound();
+        unsound();
         Check.end("OrderEdgeTest");
     }
 }

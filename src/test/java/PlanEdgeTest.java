@@ -181,6 +181,27 @@ public final class PlanEdgeTest {
         due("rot in all slices that no rule allows", refused, "0");
     }
 
+    /** Prices need not fall with the grade: rot is in the two last of seven rows, by the grade 1, or 2, at 99. */
+    private static void worseGradesThatAreWorthMore() {
+        for (int grade = 1; grade <= 2; grade++) {
+            for (int thickness = 2; thickness <= 3; thickness++) {
+                Kerfhall mill = Mills.ofPart(7, 6 + thickness, 4, 10, 0, 5);
+                mill.setRule(1, 0, 0, grade == 1, true);
+                mill.setRule(2, 0, 0, grade == 2, true);
+                for (int slice = 0; slice < 6; slice++) {
+                    mill.setSweep(0, slice, 0, 2);
+                    mill.addRot(0, slice, 1);
+                }
+                Mills.setPrices(mill, thickness == 2 ? 1 : 0, thickness == 3 ? 1 : 0);
+                mill.setPrice(thickness, grade, 99);
+                due("the rot is worth more", mill, thickness * 7 * 6 * 99 + " | 7 " + thickness + " 4 7 0 6");
+                mill.setPrice(thickness, 0, 98);
+                mill.setPrice(thickness, grade, 69);
+                due("the rest is worth more", mill, thickness * 5 * 6 * 98 + " | 7 " + thickness + " 4 5 0 6");
+            }
+        }
+    }
+
     /** "By what is seen": metal at its true place "also where no wood is seen", wane by what is seen of the sweep. */
     private static void bySight() {
         Kerfhall mill = Mills.ofLogs(1, 4, "srm");
@@ -306,7 +327,7 @@ public final class PlanEdgeTest {
         Check.due("a wane of 99", bare.gradeOf(0), 3);
     }
 
-    /** "Knots 2", "knots 6", "knots 20", and at most 24 here: a board with so many cells of knots in two of its slices. */
+    /** "Knots 2", "knots 6", "knots 20": boards with 0 to 24 cells of knots in two of their slices. */
     private static void rulesOfKnots() {
         int[] due = {0, 0, 0, 1, 1, 1, 1, 2, 2, 2, 2, 2, 2, 2, 2, 2, 2, 2, 2, 2, 2, 3, 3, 3, 3};
         for (int knots = 0; knots <= 24; knots++) {
@@ -391,6 +412,7 @@ public final class PlanEdgeTest {
         lowestSliceAheadOfLeastLength();
         leastLength();
         worthNothing();
+        worseGradesThatAreWorthMore();
         bySight();
         stainAsItIsNow();
         waneInPlans();

@@ -245,7 +245,7 @@ public final class PlanTest {
         mill.setSweep(0, 0, 2, 0);
         mill.addRot(0, 0, 1);
         mill.setSweep(0, 0, 2, 2);
-        // The rot of the slice 0 is now in the columns 9 and 10, the rows 9 and 10: the board of 3 columns has one cell.
+        // The rot of the slice 0 is now in the columns and rows 9 and 10: the board of 3 columns has one cell.
         mill.setPrice(2, 0, 0);
         Check.due("one cell of rot, and wane", mill.plan(0), 216);
         mill.setRule(2, 30, 20, false, true);

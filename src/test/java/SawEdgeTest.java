@@ -236,7 +236,9 @@ public final class SawEdgeTest {
         Check.refused(mill, "ahead and behind", ARGUMENT, () -> mill.trim(0, 1, 5));
         Check.refused(mill, "behind", ARGUMENT, () -> mill.trim(0, 4, 2));
         Check.refused(mill, "as counted from the board's first", ARGUMENT, () -> mill.trim(0, 0, 2));
-        Check.refused(mill, "a sum that wraps round", ARGUMENT, () -> mill.trim(0, Integer.MAX_VALUE, Integer.MAX_VALUE));
+        int most = Integer.MAX_VALUE;
+        Check.refused(mill, "a sum that wraps round", ARGUMENT, () -> mill.trim(0, most, most));
+        Check.refused(mill, "a sum that wraps round to the last", ARGUMENT, () -> mill.trim(0, most, 6 - most));
         Check.due("the first two", mill.trim(0, 2, 2), 8);
         Check.due("the two that are left", mill.trim(0, 2, 2), 0);
     }
@@ -272,7 +274,9 @@ public final class SawEdgeTest {
         Check.refused(mill, "above", ARGUMENT, () -> mill.rip(0, 8, 3));
         Check.refused(mill, "below and above", ARGUMENT, () -> mill.rip(0, 4, 7));
         Check.refused(mill, "as counted from the board's first", ARGUMENT, () -> mill.rip(0, 0, 3));
-        Check.refused(mill, "a sum that wraps round", ARGUMENT, () -> mill.rip(0, Integer.MAX_VALUE, Integer.MAX_VALUE));
+        int most = Integer.MAX_VALUE;
+        Check.refused(mill, "a sum that wraps round", ARGUMENT, () -> mill.rip(0, most, most));
+        Check.refused(mill, "a sum that wraps round to a row", ARGUMENT, () -> mill.rip(0, 5, most - 3));
         Check.due("the last three", mill.rip(0, 7, 3), 18);
         Check.due("the three that are left", mill.rip(0, 7, 3), 0);
     }
